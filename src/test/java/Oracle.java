@@ -134,7 +134,7 @@ final class Oracle {
         return -1;
     }
 
-    /** What is common to both ends at an end of the view, or where it meets a border's line. */
+    /** What both have in common ends at an end of the view, or where it meets a border's line. */
     private boolean byBox(Point a, Point b, Box box) {
         List<Fraction> parts = new ArrayList<>();
         parts.add(Fraction.of(0));
@@ -248,9 +248,10 @@ final class Oracle {
 
     int allowed(int station, boolean back) {
         int best = 0;
+        int sight = sight(station, back);
         for (int v = 5; v <= 130; v += 5) {
             int need = need(station, back, v);
-            if (need <= sight(station, back) || road(station, back) < need) {
+            if (need <= sight || road(station, back) < need) {
                 best = v;
             }
         }
@@ -259,8 +260,12 @@ final class Oracle {
 
     int overtake(int wanted) {
         int best = 0;
+        int[] sights = new int[stations.size()];
+        for (int i = 0; i < sights.length; i++) {
+            sights[i] = sight(i, false);
+        }
         for (int a = 0; a < stations.size(); a++) {
-            for (int b = a; b < stations.size() && sight(b, false) >= wanted; b++) {
+            for (int b = a; b < stations.size() && sights[b] >= wanted; b++) {
                 best = Math.max(best, apart(a, b));
             }
         }

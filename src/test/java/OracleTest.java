@@ -4,15 +4,18 @@ import java.util.Random;
 /** Many roads, the same each time (the seeds are fixed), asked of the class and of the oracle. */
 public final class OracleTest {
     private static final int ROADS = 400;
+    private static final int FULL_ROADS = 10;
     private static final Checks checks = new Checks();
     private final Random random;
-    private final SightRows road = new SightRows();
     private final Oracle oracle = new Oracle();
     private final String name;
+    private final boolean full;
+    private SightRows road = new SightRows();
 
     private OracleTest(int seed) {
         random = new Random(seed);
         name = "road " + seed + ": ";
+        full = seed < FULL_ROADS;
     }
 
     public static void main(String[] args) {
@@ -32,7 +35,7 @@ public final class OracleTest {
 
     /** Kinds: 0 tiny (many ties), 1 far and steep, 2 a bend, 3 hills, 4 all at the edges. */
     private void build(int kind) {
-        int stations = pick(1, kind == 2 || kind == 3 ? 14 : 8);
+        int stations = full ? 60 : pick(1, kind == 2 || kind == 3 ? 12 : 8);
         int x = 0;
         int y = 0;
         double heading = 0;
@@ -46,12 +49,12 @@ public final class OracleTest {
             } else {
                 add(x, y, pick(-60, 60) * (kind == 3 ? 2 : 0));
                 heading += kind == 2 ? random.nextDouble() * 0.5 - 0.1 : 0;
-                int step = pick(50, 400);
+                int step = pick(50, full ? 200 : 400);
                 x += (int) (step * Math.cos(heading));
                 y += (int) (step * Math.sin(heading));
             }
         }
-        boxes(kind, x);
+        boxes(kind, x, full ? 8 : pick(0, 8));
         change();
     }
 
@@ -60,8 +63,7 @@ public final class OracleTest {
             oracle.station(x, y, level));
     }
 
-    private void boxes(int kind, int length) {
-        int boxes = pick(0, 8);
+    private void boxes(int kind, int length, int boxes) {
         for (int i = 0; i < boxes; i++) {
             int spread = kind == 0 ? 4 : kind == 1 || kind == 4 ? 15_000 : Math.max(400, length / 2);
             int x0 = kind >= 2 && kind <= 3 ? pick(0, 2 * spread) : pick(-spread, spread);
@@ -95,20 +97,48 @@ public final class OracleTest {
     }
 
     private void ask() {
-        int stations = oracle.stations.size();
-        for (int i = 0; i < stations; i++) {
+        renew();
+        askStations();
+        renew();
+        askLooking(false);
+        renew();
+        askLooking(true);
+        renew();
+        askAll();
+    }
+
+    /** An object answers 512 calls: a full road is told to a new one before it is asked more. */
+    private void renew() {
+        if (!full) {
+            return;
+        }
+        road = new SightRows();
+        for (int i = 0; i < oracle.stations.size(); i++) {
+            Oracle.Station s = oracle.stations.get(i);
+            road.station(s.x(), s.y(), s.level());
+            road.speed(i, oracle.speeds.get(i));
+            for (int side = 0; side < 2; side++) {
+                Integer width = oracle.widths.get(i)[side];
+                if (width != null) {
+                    road.clear(i, side, width);
+                }
+            }
+        }
+        for (Oracle.Box b : oracle.boxes) {
+            road.box(b.x0(), b.y0(), b.x1(), b.y1(), b.top());
+        }
+        road.heights(oracle.eye, oracle.thing);
+        road.brake(oracle.react, oracle.brake);
+    }
+
+    private void askStations() {
+        for (int i = 0; i < oracle.stations.size(); i++) {
             checks.due(name + "way(" + i + ")", road.way(i), oracle.stations.get(i).way());
             for (int side = 0; side < 2; side++) {
                 checks.due(name + "setBack(" + i + ", " + side + ")", road.setBack(i, side), oracle.setBack(i, side));
             }
             askLight(i);
         }
-        for (int n = 0; n < 12 && stations > 1; n++) {
-            askView(pick(0, stations - 1), pick(0, stations - 1));
-        }
-        askLooking(false);
-        askLooking(true);
-        askAll();
     }
 
     private void askLight(int station) {
@@ -144,6 +174,9 @@ public final class OracleTest {
 
     private void askAll() {
         int last = oracle.stations.size() - 1;
+        for (int n = 0; n < 12; n++) {
+            askView(pick(0, last), pick(0, last));
+        }
         int wanted = Math.max(1, oracle.sight(pick(0, last), false) + pick(0, 1));
         checks.due(name + "overtake(" + wanted + ")", road.overtake(wanted), oracle.overtake(wanted));
         for (int n = 0; n < 6; n++) {

@@ -224,7 +224,7 @@ public final class PromisesTest {
         checks.due("9: the highest ground", low.view(0, 2, 1), 1);
         checks.due("9: next stations see each other", low.view(0, 1, 0), 0);
         int[][] wrong = {{0, 0, 0}, {0, 3, 0}, {3, 0, 0}, {-1, 0, 0}, {0, -1, 0}, {0, 1, 2}, {0, 1, -1},
-            {2, 2, 1}, {MOST, 0, 0}, {0, LEAST, 0}, {0, 1, MOST}, {0, 1, LEAST}};
+            {0, 2, 2}, {0, 2, -1}, {2, 2, 1}, {MOST, 0, 0}, {0, LEAST, 0}, {0, 1, MOST}, {0, 1, LEAST}};
         for (int[] w : wrong) {
             checks.due("9: view, wrong", low.view(w[0], w[1], w[2]), BAD);
         }
