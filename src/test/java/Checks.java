@@ -2,6 +2,27 @@
 final class Checks {
     private int made;
     private int wrong;
+    private int tests;
+
+    /** One sentence of the document, and what looks at it; a test that looks at nothing is wrong. */
+    void test(String sentence, Runnable look) {
+        tests++;
+        int madeBefore = made;
+        int wrongBefore = wrong;
+        try {
+            look.run();
+        } catch (RuntimeException | Error thrown) {
+            wrong++;
+            System.out.println("thrown: " + thrown + " at " + thrown.getStackTrace()[0]);
+        }
+        if (made == madeBefore) {
+            wrong++;
+            System.out.println("nothing was looked at");
+        }
+        if (wrong != wrongBefore) {
+            System.out.println("FAILED: " + sentence);
+        }
+    }
 
     void due(String call, int got, int want) {
         made++;
@@ -16,7 +37,8 @@ final class Checks {
     }
 
     void close() {
-        System.out.println(made + " answers looked at, " + wrong + " not as due");
+        String named = tests == 0 ? "" : tests + " sentences, ";
+        System.out.println(named + made + " answers looked at, " + wrong + " not as due");
         if (wrong != 0 || made == 0) {
             System.exit(1);
         }

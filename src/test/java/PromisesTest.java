@@ -30,24 +30,6 @@ public final class PromisesTest {
         checks.close();
     }
 
-    /** A road with stations at the x that are told, y and level 0. */
-    private static SightRows straight(int... xs) {
-        SightRows road = new SightRows();
-        for (int x : xs) {
-            road.station(x, 0, 0);
-        }
-        return road;
-    }
-
-    /** A road with a station each 1,000 decimetres, at the levels that are told. */
-    private static SightRows levels(int... levels) {
-        SightRows road = new SightRows();
-        for (int i = 0; i < levels.length; i++) {
-            road.station(1_000 * i, 0, levels[i]);
-        }
-        return road;
-    }
-
     private static void newObject() {
         SightRows road = new SightRows();
         checks.due("1: BAD", SightRows.BAD, BAD);
@@ -87,9 +69,9 @@ public final class PromisesTest {
     }
 
     private static void heights() {
-        SightRows road = levels(0, 65, 0);
+        SightRows road = Roads.levels(0, 65, 0);
         checks.due("3: at first (110 + 20) / 2 is 65", road.view(0, 2, 0), 0);
-        SightRows higher = levels(0, 66, 0);
+        SightRows higher = Roads.levels(0, 66, 0);
         checks.due("3: at first it is below 66", higher.view(0, 2, 0), 1);
         int[][] wrong = {{-1, 20}, {1_001, 20}, {110, -1}, {110, 1_001}, {LEAST, 0}, {0, MOST}};
         for (int[] w : wrong) {
@@ -108,7 +90,7 @@ public final class PromisesTest {
     }
 
     private static void clear() {
-        SightRows road = straight(0, 50);
+        SightRows road = Roads.straight(0, 50);
         road.station(100, 60, 0);
         checks.due("4: clear(1, 1, 0)", road.clear(1, 1, 0), true);
         checks.due("4: clear(1, 0, 0)", road.clear(1, 0, 0), true);
@@ -125,7 +107,7 @@ public final class PromisesTest {
     }
 
     private static void box() {
-        SightRows road = straight(0, 1_000);
+        SightRows road = Roads.straight(0, 1_000);
         int[][] wrong = {{1, 0, 0, 0, 500}, {0, 1, 0, 0, 500}, {-15_001, 0, 0, 0, 500},
             {0, -15_001, 0, 0, 500}, {0, 0, 15_001, 0, 500}, {0, 0, 0, 15_001, 500},
             {0, 0, 0, 0, 100_001}, {0, 0, 0, 0, -100_001}, {LEAST, LEAST, MOST, MOST, 500},
@@ -147,7 +129,7 @@ public final class PromisesTest {
     }
 
     private static void speed() {
-        SightRows road = straight(0, 1_000);
+        SightRows road = Roads.straight(0, 1_000);
         checks.due("6: 50 at first", road.need(0, false), 347 + 214);
         int[][] wrong = {{-1, 5}, {2, 5}, {0, -1}, {0, 201}, {MOST, 5}, {LEAST, 5}, {0, MOST}, {0, LEAST}};
         for (int[] w : wrong) {
@@ -162,7 +144,7 @@ public final class PromisesTest {
     }
 
     private static void brake() {
-        SightRows road = straight(0);
+        SightRows road = Roads.straight(0);
         int[][] wrong = {{-1, 450}, {101, 450}, {25, 49}, {25, 1_001}, {LEAST, 450}, {25, MOST}, {25, LEAST}};
         for (int[] w : wrong) {
             checks.due("7: brake, wrong", road.brake(w[0], w[1]), false);
@@ -220,7 +202,7 @@ public final class PromisesTest {
         bent.station(100, 100, 0);
         checks.due("9: parts are by ways, a half here", bent.view(0, 2, 0), 0);
 
-        SightRows low = levels(-100_000, 100_000, -100_000);
+        SightRows low = Roads.levels(-100_000, 100_000, -100_000);
         checks.due("9: the highest ground", low.view(0, 2, 1), 1);
         checks.due("9: next stations see each other", low.view(0, 1, 0), 0);
         int[][] wrong = {{0, 0, 0}, {0, 3, 0}, {3, 0, 0}, {-1, 0, 0}, {0, -1, 0}, {0, 1, 2}, {0, 1, -1},
@@ -257,15 +239,15 @@ public final class PromisesTest {
         left.clear(1, 1, 1);
         checks.due("9: 0.7 is not more than 1", left.view(0, 2, 0), 0);
 
-        SightRows twice = straight(0, 100, 0);
+        SightRows twice = Roads.straight(0, 100, 0);
         twice.clear(1, 0, 0);
         twice.clear(1, 1, 0);
         checks.due("9: both at one point", twice.view(0, 2, 0), 0);
-        SightRows line = straight(0, 50, 100);
+        SightRows line = Roads.straight(0, 50, 100);
         line.clear(1, 0, 0);
         line.clear(1, 1, 0);
         checks.due("9: the line goes through it", line.view(0, 2, 0), 0);
-        SightRows ends = straight(0, 100);
+        SightRows ends = Roads.straight(0, 100);
         ends.station(100, 100, 0);
         ends.clear(0, 0, 0);
         ends.clear(2, 0, 0);
@@ -321,7 +303,7 @@ public final class PromisesTest {
         checks.due("9: ends at one y, at the other border", viewBeside(-5, 0), 3);
         checks.due("9: ends at one y, beside on the other side", viewBeside(-5, -1), 0);
 
-        SightRows point = straight(0, 0);
+        SightRows point = Roads.straight(0, 0);
         point.box(0, 0, 0, 0, 20);
         checks.due("9: at one point, not below 20", point.view(0, 1, 0), 0);
         point.box(1, 1, 2, 2, 500);
@@ -331,7 +313,7 @@ public final class PromisesTest {
     }
 
     private static int viewBeside(int y0, int y1) {
-        SightRows road = straight(0, 300);
+        SightRows road = Roads.straight(0, 300);
         road.box(100, y0, 200, y1, 500);
         return road.view(0, 1, 0);
     }
@@ -368,7 +350,7 @@ public final class PromisesTest {
     }
 
     private static void sight() {
-        SightRows road = levels(0, 0, 0, 500, 0, 0);
+        SightRows road = Roads.levels(0, 0, 0, 500, 0, 0);
         checks.due("10: up to the hill", road.sight(0, false), 3_000);
         checks.due("10: from the hill", road.sight(3, false), 2_000);
         checks.due("10: up to the hill, back", road.sight(5, true), 2_000);
@@ -384,7 +366,7 @@ public final class PromisesTest {
         checks.due("10: the first is not free", road.sight(0, false), 0);
         checks.due("10: the first is not free, back", road.sight(1, true), 0);
 
-        SightRows gap = levels(0, 100, 0, 1_000);
+        SightRows gap = Roads.levels(0, 100, 0, 1_000);
         checks.due("10: not the one in the dip", gap.view(0, 2, 0), 1);
         checks.due("10: the one behind it", gap.view(0, 3, 0), 0);
         checks.due("10: all up to it must be free", gap.sight(0, false), 1_000);
@@ -422,7 +404,7 @@ public final class PromisesTest {
 
     /** Boxes between stations 0 and 1, 1 and 2, and 4 and 5 of a level road. */
     private static SightRows walled() {
-        SightRows road = straight(0, 600, 1_200, 1_800, 2_400, 3_000, 3_561);
+        SightRows road = Roads.straight(0, 600, 1_200, 1_800, 2_400, 3_000, 3_561);
         road.box(300, 0, 300, 0, 900);
         road.box(900, 0, 900, 0, 900);
         road.box(2_700, 0, 2_700, 0, 900);
@@ -452,7 +434,7 @@ public final class PromisesTest {
         checks.due("12: the road is shorter than the need", road.blind(false, 1, 1), 4);
         checks.due("12: a road to its end", endsBlind().blind(false, 0, 1), 1);
         checks.due("12: back, up to the last station", endsBlind().blind(true, 0, 1), 2);
-        SightRows enough = straight(0, 561, 600);
+        SightRows enough = Roads.straight(0, 561, 600);
         enough.box(570, 0, 570, 0, 900);
         checks.due("12: a sight of 561 is not below the need", enough.blind(false, 0, 0), BAD);
         enough.speed(0, 51);
@@ -460,7 +442,7 @@ public final class PromisesTest {
     }
 
     private static SightRows endsBlind() {
-        SightRows road = straight(0, 600, 1_200);
+        SightRows road = Roads.straight(0, 600, 1_200);
         road.box(300, 0, 300, 0, 900);
         road.box(900, 0, 900, 0, 900);
         return road;
@@ -524,7 +506,7 @@ public final class PromisesTest {
     }
 
     private static void allowed() {
-        SightRows road = straight(0, 561, 5_000, 5_400);
+        SightRows road = Roads.straight(0, 561, 5_000, 5_400);
         road.box(600, 0, 600, 0, 900);
         road.box(5_300, 0, 5_300, 0, 900);
         checks.due("14: 561 is the need with 50", road.allowed(0, false), 50);
@@ -545,7 +527,7 @@ public final class PromisesTest {
     }
 
     private static SightRows shut(int length) {
-        SightRows road = straight(0, length);
+        SightRows road = Roads.straight(0, length);
         road.box(1, 0, 1, 0, 900);
         return road;
     }
@@ -557,7 +539,7 @@ public final class PromisesTest {
     }
 
     private static void overtake() {
-        SightRows road = straight(0, 100, 200, 300, 400, 1_000, 1_100);
+        SightRows road = Roads.straight(0, 100, 200, 300, 400, 1_000, 1_100);
         road.box(250, 0, 250, 0, 900);
         checks.due("15: sights 200, 100, 0, 800, 700, 100, 0", road.overtake(100), 700);
         checks.due("15: 101", road.overtake(101), 100);
@@ -570,19 +552,19 @@ public final class PromisesTest {
         for (int w : wrong) {
             checks.due("15: overtake, wrong", road.overtake(w), BAD);
         }
-        SightRows first = straight(0, 900, 1_000, 1_100, 1_200, 1_300);
+        SightRows first = Roads.straight(0, 900, 1_000, 1_100, 1_200, 1_300);
         first.box(1_050, 0, 1_050, 0, 900);
         checks.due("15: the greatest, not the last", first.overtake(50), 900);
     }
 
     private static void seen() {
-        SightRows road = straight(0, 1_000, 2_000, 3_000);
+        SightRows road = Roads.straight(0, 1_000, 2_000, 3_000);
         checks.due("16: from all, 3,000 at most", road.seen(0, 0, 200), 4);
         checks.due("16: one is farther", road.seen(-1, 0, 200), 3);
         checks.due("16: farther by less than a decimetre", road.seen(0, 1, 200), 3);
-        checks.due("16: aslant, 1,800 and 2,400", straight(0).seen(1_800, 2_400, 0), 1);
-        checks.due("16: aslant, farther", straight(0).seen(1_800, 2_401, 0), 0);
-        checks.due("16: the farthest corner", straight(0).seen(-15_000, 15_000, 0), 0);
+        checks.due("16: aslant, 1,800 and 2,400", Roads.straight(0).seen(1_800, 2_400, 0), 1);
+        checks.due("16: aslant, farther", Roads.straight(0).seen(1_800, 2_401, 0), 0);
+        checks.due("16: the farthest corner", Roads.straight(0).seen(-15_000, 15_000, 0), 0);
         road.box(500, -5, 500, 5, 111);
         checks.due("16: 110 at the eye, 111 the box", road.seen(0, 0, 111), 1);
         checks.due("16: 110 or above past it, and the sign too", road.seen(0, 0, 112), 4);
@@ -592,10 +574,10 @@ public final class PromisesTest {
         road.heights(113, 20);
         checks.due("16: eyes above the box", road.seen(0, 0, 1_000), 4);
 
-        SightRows hilly = levels(0, 1_000, 0);
+        SightRows hilly = Roads.levels(0, 1_000, 0);
         hilly.clear(1, 0, 0);
         checks.due("16: ground is nothing to it", hilly.seen(2_000, 0, 0), 3);
-        SightRows high = levels(1_000);
+        SightRows high = Roads.levels(1_000);
         high.box(100, -5, 100, 5, 600);
         checks.due("16: eyes stand on their level, the sign does not", high.seen(200, 0, 89), 0);
         checks.due("16: 1,110 and 90 give 600", high.seen(200, 0, 90), 1);
@@ -604,12 +586,12 @@ public final class PromisesTest {
         for (int[] w : wrong) {
             checks.due("16: seen, wrong", road.seen(w[0], w[1], w[2]), BAD);
         }
-        checks.due("16: the highest sign", straight(15_000).seen(15_000, 0, 100_000), 1);
-        checks.due("16: the lowest sign", straight(-15_000).seen(-15_000, 0, -100_000), 1);
+        checks.due("16: the highest sign", Roads.straight(15_000).seen(15_000, 0, 100_000), 1);
+        checks.due("16: the lowest sign", Roads.straight(-15_000).seen(-15_000, 0, -100_000), 1);
     }
 
     private static void light() {
-        SightRows road = levels(50, 50, 150, 130, 0);
+        SightRows road = Roads.levels(50, 50, 150, 130, 0);
         checks.due("17: 100 above 50 is 150", road.light(0, 100, 0), 4_000);
         checks.due("17: 99 is not enough", road.light(0, 99, 0), 1_000);
         checks.due("17: a rise of 5: 100 on 2,000", road.light(0, 0, 5), 4_000);
@@ -622,12 +604,12 @@ public final class PromisesTest {
         for (int[] w : wrong) {
             checks.due("17: light, wrong", road.light(w[0], w[1], w[2]), BAD);
         }
-        SightRows cut = straight(0);
+        SightRows cut = Roads.straight(0);
         cut.station(199, 0, 2);
         checks.due("17: 1.99 is cut off to 1", cut.light(0, 0, 1), 0);
         cut.station(200, 0, 3);
         checks.due("17: the lamp and the rise", cut.light(0, 1, 1), 200);
-        SightRows steep = levels(0, 1_000 + 1_000, 3_001);
+        SightRows steep = Roads.levels(0, 1_000 + 1_000, 3_001);
         checks.due("17: the highest lamp, the greatest rise", steep.light(0, 1_000, 100), 1_000);
     }
 
@@ -648,7 +630,7 @@ public final class PromisesTest {
         road.speed(5, 0);
         checks.due("18: blind back, but for one", road.count(5), 2);
         checks.due("18: blind on, as before", road.count(4), 3);
-        SightRows crest = straight(0);
+        SightRows crest = Roads.straight(0);
         crest.station(100, 0, 83);
         crest.station(300, 0, 0);
         checks.due("18: not over the crest", crest.count(3), 2);
