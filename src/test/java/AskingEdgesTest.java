@@ -110,6 +110,17 @@ public final class AskingEdgesTest {
     }
 
     private static void sightAndNeed() {
+        checks.test("10: The sight from a station.", () -> {
+            SightRows road = Roads.full();
+            checks.due("from the first on", road.sight(0, false), 29_500);
+            checks.due("from the first back", road.sight(0, true), 0);
+            checks.due("from the last but one on", road.sight(58, false), 500);
+            checks.due("from the last but one back", road.sight(58, true), 29_000);
+            checks.due("from the last on", road.sight(59, false), 0);
+            checks.due("from the last back", road.sight(59, true), 29_500);
+            checks.due("in the dark, on", Roads.fullAndDark().sight(0, false), 0);
+            checks.due("in the dark, back", Roads.fullAndDark().sight(59, true), 0);
+        });
         checks.test("10: BAD: none such.", () -> {
             ranges.askingStation("sight on", (road, station) -> road.sight(station, false) != BAD);
             ranges.askingStation("sight back", (road, station) -> road.sight(station, true) != BAD);
@@ -204,6 +215,16 @@ public final class AskingEdgesTest {
                 checks.due("the other side", bends[i].setBack(1, RIGHT), 0);
             }
         });
+        checks.test("13: The least clear width, where the line is just beside the station", () -> {
+            for (int side = 0; side < 2; side++) {
+                SightRows thin = Roads.longAndThin(side);
+                thin.speed(0, 200);
+                thin.brake(100, 50);
+                checks.due("the need is long enough", thin.need(0, false) >= thin.way(2), true);
+                checks.due("0.00002 wants 1", thin.setBack(1, side), 1);
+                checks.due("the other side", thin.setBack(1, 1 - side), 0);
+            }
+        });
         checks.test("13: 0 where no view goes past", () -> {
             SightRows road = fastBend(50, -30, 100, 0);
             for (int side = 0; side < 2; side++) {
@@ -255,8 +276,8 @@ public final class AskingEdgesTest {
         });
         checks.test("13: BAD: it would be above 1,000.", () -> {
             checks.due("1,000", fastBend(9, 1_000, 18, 0).setBack(1, RIGHT), 1_000);
-            checks.due("999.6", fastBend(0, 1_666, 300, 400).setBack(1, RIGHT), 1_000);
-            checks.due("1,000.2", fastBend(0, 1_667, 300, 400).setBack(1, RIGHT), BAD);
+            checks.due("999.6", fastBend(-201, 1_398, 1_200, 1_600).setBack(1, RIGHT), 1_000);
+            checks.due("1,000.2", fastBend(-201, 1_399, 1_200, 1_600).setBack(1, RIGHT), BAD);
             checks.due("1,001", fastBend(9, 1_001, 18, 0).setBack(1, RIGHT), BAD);
             checks.due("the other side", fastBend(9, 1_001, 18, 0).setBack(1, LEFT), 0);
             checks.due("the most that its need lets be", farthest().setBack(1, LEFT), BAD);
@@ -406,18 +427,24 @@ public final class AskingEdgesTest {
             checks.due("the last ones", Roads.full().seen(15_000, 0, 0), 6);
         });
         checks.test("16: those not farther than 3,000 decimetres in the plane", () -> {
-            SightRows road = Roads.straight(0);
             int[][] near = {{3_000, 0}, {-3_000, 0}, {0, 3_000}, {0, -3_000}, {1_800, 2_400}, {-2_400, -1_800},
                 {2_999, 77}};
-            for (int[] p : near) {
-                checks.due("near", road.seen(p[0], p[1], 0), 1);
-            }
             int[][] far = {{3_001, 0}, {-3_001, 0}, {0, 3_001}, {0, -3_001}, {3_000, 1}, {1, -3_000}, {1_800, 2_401},
-                {2_999, 78}, {15_000, 15_000}, {-15_000, -15_000}};
-            for (int[] p : far) {
-                checks.due("far", road.seen(p[0], p[1], 0), 0);
+                {2_999, 78}, {3_000, 3_000}, {-3_000, -3_000}};
+            int[][] places = {{0, 0}, {11_000, -11_900}, {-11_900, 11_000}, {11_999, 11_999}};
+            for (int[] place : places) {
+                SightRows road = new SightRows();
+                road.station(place[0], place[1], 0);
+                for (int[] p : near) {
+                    checks.due("near", road.seen(place[0] + p[0], place[1] + p[1], 0), 1);
+                }
+                for (int[] p : far) {
+                    checks.due("far", road.seen(place[0] + p[0], place[1] + p[1], 0), 0);
+                }
+                checks.due("heights are nothing to it", road.seen(place[0] + 3_000, place[1], 100_000), 1);
             }
-            checks.due("heights are nothing to it", road.seen(3_000, 0, 100_000), 1);
+            checks.due("the farthest corner", Roads.straight(0).seen(15_000, 15_000, 0), 0);
+            checks.due("the other one", Roads.straight(0).seen(-15_000, -15_000, 0), 0);
         });
         checks.test("16: (centimetres, no level is added)", () -> {
             SightRows road = Roads.levels(5_000);
@@ -434,6 +461,12 @@ public final class AskingEdgesTest {
             checks.due("in the box, 110", road.seen(100, 0, 110), 0);
             checks.due("before the box", road.seen(99, 0, 0), 1);
             checks.due("beside the box", road.seen(200, 1, 0), 1);
+            SightRows aside = new SightRows();
+            aside.station(300, -700, 0);
+            aside.box(400, -600, 400, -600, 900);
+            checks.due("beyond the box, aslant", aside.seen(500, -500, 0), 0);
+            checks.due("before the box, aslant", aside.seen(399, -601, 0), 1);
+            checks.due("beside the box, aslant", aside.seen(500, -501, 0), 1);
             SightRows hilly = Roads.levels(0, 9_000, 0);
             hilly.clear(1, LEFT, 0);
             hilly.clear(1, RIGHT, 0);

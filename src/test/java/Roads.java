@@ -30,6 +30,15 @@ final class Roads {
         return road;
     }
 
+    /** The longest line, beside its second station by the least that may be: on its left, or right. */
+    static SightRows longAndThin(int side) {
+        SightRows road = new SightRows();
+        road.station(-15_000, -15_000, 1);
+        road.station(-14_999, -14_999, 0);
+        road.station(side == 0 ? 14_999 : 15_000, side == 0 ? 15_000 : 14_999, 0);
+        return road;
+    }
+
     /** The most stations that there may be, each 500 decimetres, level and straight. */
     static SightRows full() {
         SightRows road = new SightRows();

@@ -167,8 +167,8 @@ public final class TellingEdgesTest {
             ranges.telling("width", Roads::sample, 0, 1_000, (road, width) -> road.clear(4, LEFT, width));
             ranges.telling("width told before", Roads::sample, 0, 1_000, (road, width) -> road.clear(2, LEFT, width));
             checks.due("0.7 past 0", past(Roads.bend(1, 0, 2, 2), LEFT, 0), 2);
-            checks.due("1,000 past 1,000", past(Roads.bend(0, 1_000, 9, 0), RIGHT, 1_000), 0);
-            checks.due("1,000.2 past 1,000", past(Roads.bend(0, 1_667, 300, 400), RIGHT, 1_000), 2);
+            checks.due("1,000 past 1,000", past(Roads.bend(9, 1_000, 18, 0), RIGHT, 1_000), 0);
+            checks.due("1,000.2 past 1,000", past(Roads.bend(-201, 1_399, 1_200, 1_600), RIGHT, 1_000), 2);
             SightRows again = Roads.bend(50, -30, 100, 0);
             checks.due("30 past 29", past(again, LEFT, 29), 2);
             checks.due("told anew, 30", past(again, LEFT, 30), 0);

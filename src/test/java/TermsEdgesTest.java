@@ -97,6 +97,17 @@ public final class TermsEdgesTest {
         return road;
     }
 
+    /** The same up from - 100,000 to 77,090: all levels lie on the view, but for one above it. */
+    private static SightRows risingZigzag(int raised) {
+        SightRows road = new SightRows();
+        for (int i = 0; i < 60; i++) {
+            int corner = i % 2 == 0 ? -15_000 : 15_000;
+            int level = i == 0 ? -100_000 : i == 59 ? 77_090 : -99_890 + 3_000 * i;
+            road.station(corner, corner, i == raised && i > 0 ? level + 1 : level);
+        }
+        return road;
+    }
+
     private static void cutOff() {
         int[][] steps = {{1, 1, 1}, {2, 1, 2}, {2, 2, 2}, {3, 0, 3}, {3, 4, 5}, {8, 4, 8}, {7, 7, 9}, {9, 0, 9},
             {6, 8, 10}, {29_999, 2, 29_999}, {30_000, 0, 30_000}, {30_000, 29_999, 42_425}, {30_000, 30_000, 42_426}};
@@ -153,6 +164,10 @@ public final class TermsEdgesTest {
             checks.due("the highest levels", viewOverGround(100_000, 1, 2, 100_000), FREE);
             checks.due("the lowest levels, 65", viewOverGround(-100_000, 1, 2, -99_935), FREE);
             checks.due("the lowest levels, 66", viewOverGround(-100_000, 1, 2, -99_934), GROUND);
+            checks.due("the longest road, just below the view", risingZigzag(0).view(0, 59, 0), FREE);
+            for (int raised = 1; raised < 59; raised++) {
+                checks.due("one a centimetre above it", risingZigzag(raised).view(0, 59, 1), raised);
+            }
         });
     }
 
@@ -241,6 +256,9 @@ public final class TermsEdgesTest {
             checks.due("and not on its right", viewPastBank(rightOfLine(), RIGHT, 0), FREE);
             checks.due("past one on the left side: on its right", viewPastBank(leftOfLine(), RIGHT, 0), BANK);
             checks.due("and not on its left", viewPastBank(leftOfLine(), LEFT, 0), FREE);
+            pastCorners(square(0, 0));
+            pastCorners(square(14_990, -15_000));
+            pastCorners(square(-15_000, 14_990));
         });
         checks.test("looking from the one with the lesser number to the other one", () -> {
             SightRows road = rightOfLine();
@@ -262,13 +280,22 @@ public final class TermsEdgesTest {
             checks.due("30 is not more than 30", viewPastBank(rightOfLine(), LEFT, 30), FREE);
             checks.due("0.7 is more than 0", viewPastBank(Roads.bend(1, 0, 2, 2), LEFT, 0), BANK);
             checks.due("0.7 is not more than 1", viewPastBank(Roads.bend(1, 0, 2, 2), LEFT, 1), FREE);
-            SightRows nearly = Roads.bend(0, 1_666, 300, 400);
+            SightRows nearly = Roads.bend(-201, 1_398, 1_200, 1_600);
             checks.due("999.6 is more than 999", viewPastBank(nearly, RIGHT, 999), BANK);
             checks.due("999.6 is not more than 1,000", viewPastBank(nearly, RIGHT, 1_000), FREE);
-            checks.due("1,000 is not more", viewPastBank(Roads.bend(0, 1_000, 9, 0), RIGHT, 1_000), FREE);
-            checks.due("1,000.2 is more than 1,000", viewPastBank(Roads.bend(0, 1_667, 300, 400), RIGHT, 1_000), BANK);
-            checks.due("less than 0.0001 is more than 0", viewPastBank(longAndThin(), LEFT, 0), BANK);
-            checks.due("less than 0.0001 is not more than 1", viewPastBank(longAndThin(), LEFT, 1), FREE);
+            checks.due("1,000 is not more", viewPastBank(Roads.bend(9, 1_000, 18, 0), RIGHT, 1_000), FREE);
+            SightRows beyond = Roads.bend(-201, 1_399, 1_200, 1_600);
+            checks.due("1,000.2 is more than 1,000", viewPastBank(beyond, RIGHT, 1_000), BANK);
+            checks.due("0.00002 is more than 0", viewPastBank(Roads.longAndThin(LEFT), LEFT, 0), BANK);
+            checks.due("0.00002 is not more than 1", viewPastBank(Roads.longAndThin(LEFT), LEFT, 1), FREE);
+            checks.due("0.00002 is more than 0", viewPastBank(Roads.longAndThin(RIGHT), RIGHT, 0), BANK);
+            checks.due("0.00002 is not more than 1", viewPastBank(Roads.longAndThin(RIGHT), RIGHT, 1), FREE);
+        });
+        checks.test("a distance from the straight line, where the road turns back beyond its end", () -> {
+            // The document does not say that the line ends: the distance is taken from all of it.
+            SightRows road = Roads.bend(900, 30, 100, 0);
+            checks.due("30 is more than 29", viewPastBank(road, RIGHT, 29), BANK);
+            checks.due("30 is not more than 30", viewPastBank(road, RIGHT, 30), FREE);
         });
         checks.test("without bound at first", () -> {
             SightRows road = new SightRows();
@@ -282,7 +309,7 @@ public final class TermsEdgesTest {
         checks.test("not if both lie at one point of the plane", () -> {
             checks.due("left", viewPastBank(Roads.bend(90, 40, 0, 0), LEFT, 0), FREE);
             checks.due("right", viewPastBank(Roads.bend(90, 40, 0, 0), RIGHT, 0), FREE);
-            checks.due("a point beside it is enough", viewPastBank(Roads.bend(90, 40, 1, 0), RIGHT, 0), BANK);
+            checks.due("a point beside it is enough", viewPastBank(Roads.bend(1, 40, 2, 0), RIGHT, 0), BANK);
         });
     }
 
@@ -294,13 +321,27 @@ public final class TermsEdgesTest {
         return Roads.bend(50, 30, 100, 0);
     }
 
-    /** The middle station lies beside the longest line by the least that may be. */
-    private static SightRows longAndThin() {
+    /** A square of stations somewhere in the plane, gone round on the left hand. */
+    private static SightRows square(int x, int y) {
         SightRows road = new SightRows();
-        road.station(-15_000, -15_000, 0);
-        road.station(0, 0, 0);
-        road.station(14_999, 15_000, 0);
+        road.station(x, y, 0);
+        road.station(x + 10, y, 0);
+        road.station(x + 10, y + 10, 0);
+        road.station(x, y + 10, 0);
+        road.station(x, y, 0);
+        road.station(x + 10, y, 0);
         return road;
+    }
+
+    /** Each line from one corner to the next but one goes past the one between 7.1 on its left. */
+    private static void pastCorners(SightRows road) {
+        for (int i = 1; i < 5; i++) {
+            road.clear(i, RIGHT, 0);
+            road.clear(i, LEFT, 8);
+            checks.due("7.1 is not more than 8", road.view(i - 1, i + 1, 0), FREE);
+            road.clear(i, LEFT, 7);
+            checks.due("7.1 is more than 7", road.view(i - 1, i + 1, 0), BANK);
+        }
     }
 
     /** A view from (0, 0) to (300, 200), 500 centimetres below a box's top. */
@@ -322,6 +363,22 @@ public final class TermsEdgesTest {
         turned.station(0, 300, 0);
         turned.box(y0, 100, y1, 200, 610);
         int on = road.view(0, 1, 0);
+        checks.due("the same, turned", turned.view(0, 1, 0), on);
+        return on;
+    }
+
+    /** A view that goes aside by a run on a length of 300, past a box that is a line along it. */
+    private static int viewAside(int run, int x, int upTo) {
+        SightRows road = new SightRows();
+        road.station(0, 0, 0);
+        road.station(run, 300, 0);
+        road.box(x, 0, x, upTo, 610);
+        SightRows turned = new SightRows();
+        turned.station(0, 0, 0);
+        turned.station(300, run, 0);
+        turned.box(0, x, upTo, x, 610);
+        int on = road.view(0, 1, 0);
+        checks.due("the same, back", road.view(1, 0, 0), on);
         checks.due("the same, turned", turned.view(0, 1, 0), on);
         return on;
     }
@@ -355,6 +412,12 @@ public final class TermsEdgesTest {
             checks.due("the eye just beside a corner", viewPastBox(-9, -9, -1, 0), FREE);
             checks.due("the thing at a corner", viewPastBox(300, 200, 309, 209), BOX);
             checks.due("the thing just beside a corner", viewPastBox(300, 201, 309, 209), FREE);
+            for (int run = -1; run <= 1; run += 2) {
+                checks.due("aside by 1, at its end", viewAside(run, run, 300), BOX);
+                checks.due("aside by 1, just before its end", viewAside(run, run, 299), FREE);
+                checks.due("not aside yet", viewAside(run, 0, 0), BOX);
+                checks.due("not to that side", viewAside(run, -run, 300), FREE);
+            }
         });
         checks.test("somewhere there its height is below the top", TermsEdgesTest::belowTheTop);
         checks.test("a place in common, where both stations are at one point", () -> {
@@ -571,6 +634,9 @@ public final class TermsEdgesTest {
             checks.due("one alone", Roads.straight(9).need(0, false), 347 + 214);
             checks.due("there is one: 450 + 490", road.need(0, false), 347 + 102);
             checks.due("there is one: 450 - 490", road.need(1, true), 347 + 4_822);
+            SightRows more = Roads.levels(900, 0, 500, 900);
+            checks.due("the next one alone: 450 + 49", more.need(1, false), 347 + 193);
+            checks.due("the next one alone, back: 450 - 49", more.need(2, true), 347 + 240);
         });
         checks.test("BRAKE + G counts as 20, if it is less", () -> {
             checks.due("117 - 98 is 19, counts as 20", needUp(200, 0, 117, -1_000, 1_000), 77_160);
