@@ -9,6 +9,7 @@ import java.nio.file.Path;
 import java.util.Arrays;
 import java.util.Set;
 import java.util.TreeSet;
+import java.util.regex.Matcher;
 import java.util.regex.Pattern;
 
 /** The public face, and what of LANGUAGE.md can be seen from the class and its text. */
@@ -25,6 +26,7 @@ public final class LanguageTest {
 
     public static void main(String[] args) throws IOException {
         face();
+        classesInside();
         source(Files.readString(Path.of("src/main/java/SightRows.java")));
         checks.close();
     }
@@ -71,11 +73,42 @@ public final class LanguageTest {
         checks.due("private: " + m, Modifier.isPrivate(m.getModifiers()), true);
     }
 
+    private static void classesInside() {
+        checks.due("public or package-visible classes inside", SightRows.class.getClasses().length, 0);
+        checks.due("some twelve classes", SightRows.class.getDeclaredClasses().length < 12, true);
+        fewFields(SightRows.class);
+        for (Class<?> inside : SightRows.class.getDeclaredClasses()) {
+            checks.due("static: " + inside, Modifier.isStatic(inside.getModifiers()), true);
+            checks.due("has none inside: " + inside, inside.getDeclaredClasses().length, 0);
+            fewFields(inside);
+            for (Method m : inside.getDeclaredMethods()) {
+                checks.due("at most seven parameters: " + m, m.getParameterCount() <= 7, true);
+            }
+        }
+    }
+
+    private static void fewFields(Class<?> owner) {
+        int fields = 0;
+        for (Field f : owner.getDeclaredFields()) {
+            if (Modifier.isStatic(f.getModifiers())) {
+                checks.due("a constant of int: " + f, f.getType() == int.class, true);
+            } else {
+                fields++;
+            }
+        }
+        checks.due("some twenty fields: " + owner, fields <= 20, true);
+    }
+
     private static void source(String text) {
         String code = text.replaceAll("(?s)/\\*.*?\\*/", "").replaceAll("//[^\n]*", "");
         for (String word : RULED_OUT) {
             String wanted = Character.isLetter(word.charAt(0)) ? "\\b" + word + "\\b" : Pattern.quote(word);
             checks.due("in the source: " + word, Pattern.compile(wanted).matcher(code).find(), false);
+        }
+        Matcher library = Pattern.compile("\\b[A-Z]\\w*\\.\\w+").matcher(code);
+        while (library.find()) {
+            checks.due("of the library: " + library.group(),
+                Set.of("Math.abs", "Math.max", "Math.min").contains(library.group()), true);
         }
         // All rows are made with the object: a call makes none, however many calls a run has.
         for (String line : code.split("\n")) {
